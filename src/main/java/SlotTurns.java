@@ -650,7 +650,6 @@ public final class SlotTurns {
             if (size == 0 || size % g != 0) {
                 return NONE;
             }
-            emptyWays();
             if (!choose(0, 0)) {
                 return NONE;
             }
@@ -658,18 +657,9 @@ public final class SlotTurns {
             return 1;
         }
 
-        private void emptyWays() {
-            for (int way = 0; way < MOST_WAYS; way++) {
-                held[way] = 0;
-                for (int i = 0; i < MOST_SLOTS; i++) {
-                    sums[way][i] = 0;
-                }
-            }
-        }
-
         /**
-         * Chooses ways for the coils from one on, the lesser way first. Ways that hold nothing yet are alike,
-         * so beyond those begun only the first of them is tried.
+         * Chooses ways for the coils from one on, the lesser way first, and leaves all ways empty again. Ways
+         * that hold nothing yet are alike, so beyond those begun only the first of them is tried.
          */
         private boolean choose(int at, int begun) {
             if (at >= size) {
@@ -719,6 +709,7 @@ public final class SlotTurns {
     /** Finds the tour of a phase, and keeps the latest one. */
     private static final class TourFinder {
         private static final int MOST_STOPS = 7;
+        private static final int BEYOND_EVERY_TOUR = MOST_STOPS * MOST_SLOTS;
 
         private final CoilList list;
         int latestSize;
@@ -741,7 +732,7 @@ public final class SlotTurns {
             if (size == 0) {
                 return NONE;
             }
-            least = Integer.MAX_VALUE;
+            least = BEYOND_EVERY_TOUR;
             latestSize = size;
             order[0] = stops[0];
             goOn(1, 0);

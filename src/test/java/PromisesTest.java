@@ -688,6 +688,29 @@ public final class PromisesTest {
         c.due("of that lane", x.item(1, 0, 1, 5), 1);
         c.due("of the lane ahead", x.item(1, 1, 1, 5), CAST);
         c.due("of that length", x.item(1, 0, 2, 5), INDEX);
+        aNewRowHasNoughtInEachItem();
+    }
+
+    private void aNewRowHasNoughtInEachItem() {
+        SlotTurns x = new SlotTurns();
+        int[] twos = new int[96];
+        java.util.Arrays.fill(twos, 2);
+        fill(x, 0, 1, twos);
+        x.drop(0);
+        x.sheet(0, 0, 96);
+        x.item(0, 0, 2, 5);
+        x.item(0, 0, 3, 1);
+        c.due("the first two items", x.coils(0, 0, 0, 1), 1);
+        coilIs(x, 0, 0, 0, 5, 1, 1);
+        for (int i = 4; i <= 92; i++) {
+            x.clear();
+            x.sheet(0, 0, 96);
+            x.item(0, 0, i + 1, 1);
+            x.item(0, 0, i + 2, 4);
+            x.item(0, 0, i + 3, 7);
+            c.due("item " + i, x.coils(0, 0, i, 1), 1);
+            coilIs(x, 0, 0, 1, 4, 7, 1);
+        }
     }
 
     private void promise23Drop() {
