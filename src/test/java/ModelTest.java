@@ -20,6 +20,7 @@ public final class ModelTest {
         for (int run = 0; run < RUNS; run++) {
             test.walk(run);
         }
+        test.everyMotor();
         test.allKindsWereSeen();
         test.checks.end();
     }
@@ -38,6 +39,51 @@ public final class ModelTest {
                 default -> stepOfSheets();
             }
         }
+    }
+
+    /** Each motor there is, with its least, middle and greatest span. */
+    private void everyMotor() {
+        for (int q = 3; q <= 24; q++) {
+            for (int p = 1; p <= 6; p++) {
+                for (int m = 1; m <= 3; m++) {
+                    run = 10000 + 100 * q + 10 * p + m;
+                    call = 0;
+                    x = new SlotTurns();
+                    y = new Model();
+                    motor(q, p, m);
+                    everyNumber();
+                    for (int b : new int[] {1, q / 2, q - 1}) {
+                        make(b);
+                        everyCoilAndWave();
+                    }
+                }
+            }
+        }
+    }
+
+    private void everyNumber() {
+        for (int what = 0; what < 8; what++) {
+            count(what);
+        }
+        for (int i = -1; i < 25; i++) {
+            cyclotomic(i);
+        }
+    }
+
+    private void everyCoilAndWave() {
+        for (int coil = 0; coil < slots(); coil++) {
+            for (int what = 0; what < 5; what++) {
+                told(coil, what);
+            }
+        }
+        for (int tone : new int[] {1, 2, 3, y.count(3), slots(), 47}) {
+            balanced(tone);
+            for (int i = 0; i < y.count(5); i++) {
+                wave(phases() - 1, tone, i);
+            }
+        }
+        copper();
+        mend();
     }
 
     // ---- kinds of runs

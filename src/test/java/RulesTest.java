@@ -105,7 +105,8 @@ public final class RulesTest {
     private void sourceKeepsTheRules(String source) {
         String code = source.replaceAll("(?s)/\\*.*?\\*/", "").replaceAll("//[^\n]*", "");
         String[] banned = {"\\bthrows?\\b", "\\btry\\b", "\\bcatch\\b", "\\bsynchronized\\b", "\\bassert\\b",
-            "\\bimport\\b", "\\bpackage\\b", "->", "::", "\\bdouble\\b", "\\bfloat\\b", "Exact\\b", "\\bSystem\\.(?!arraycopy)",
+            "\\bimport\\b", "\\bpackage\\b", "->", "::", "\\bdouble\\b", "\\bfloat\\b", "Exact\\b",
+            "\\bSystem\\.(?!arraycopy)",
             "\\bRandom\\b", "\\bInteger\\b", "\\bThread\\b", "\\bObject\\b", "\"", "\\bstatic\\s*\\{"};
         for (String word : banned) {
             Matcher matcher = Pattern.compile(word).matcher(code);
