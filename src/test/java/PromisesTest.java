@@ -1,9 +1,8 @@
 /** One method for each promise of the document, by its number: ordinary inputs, edges, wrong inputs. */
-public final class PromisesTest {
-    private static final int BAD = -1, NOT = -2, FULL = -3, NONE = -4, NULL = -11, CAST = -12, INDEX = -13, SIZE = -14;
-    private static final int MIN = Integer.MIN_VALUE, MAX = Integer.MAX_VALUE;
-
-    private final Checks c = new Checks("PromisesTest");
+public final class PromisesTest extends Bench {
+    private PromisesTest() {
+        super("PromisesTest");
+    }
 
     public static void main(String[] args) {
         PromisesTest t = new PromisesTest();
@@ -37,63 +36,6 @@ public final class PromisesTest {
         t.promise25Coils();
         t.promise25CoilsRefused();
         t.c.end();
-    }
-
-    // ---- helpers
-
-    private static SlotTurns motor(int q, int p, int m) {
-        SlotTurns x = new SlotTurns();
-        x.motor(q, p, m);
-        return x;
-    }
-
-    /** Lays coils of one phase after another: in, out, turns of each. */
-    private static void lay(SlotTurns x, int phase, int... numbers) {
-        for (int i = 0; i < numbers.length; i += 3) {
-            x.coil(phase, numbers[i], numbers[i + 1], numbers[i + 2]);
-        }
-    }
-
-    private void coilIs(SlotTurns x, int coil, int phase, int in, int out, int turns, int used) {
-        int[] want = {phase, in, out, turns, used};
-        for (int what = 0; what < 5; what++) {
-            c.due("told(" + coil + ", " + what + ")", x.told(coil, what), want[what]);
-        }
-    }
-
-    private void waveIs(SlotTurns x, int phase, int tone, int... want) {
-        c.due("the degree", x.count(5), want.length);
-        for (int i = 0; i < want.length; i++) {
-            c.due("wave(" + phase + ", " + tone + ", " + i + ")", x.wave(phase, tone, i), want[i]);
-        }
-    }
-
-    private void waysAre(SlotTurns x, int... want) {
-        for (int i = 0; i < want.length; i++) {
-            c.due("wayOf(" + i + ")", x.wayOf(i), want[i]);
-        }
-    }
-
-    private void tourIs(SlotTurns x, int... want) {
-        c.due("tourAt(-1)", x.tourAt(-1), want.length);
-        for (int i = 0; i < want.length; i++) {
-            c.due("tourAt(" + i + ")", x.tourAt(i), want[i]);
-        }
-        c.due("tourAt beyond", x.tourAt(want.length), BAD);
-    }
-
-    private void pickedAre(SlotTurns x, int... want) {
-        for (int i = 0; i < want.length; i++) {
-            c.due("picked(" + i + ")", x.picked(i), want[i]);
-        }
-        c.due("picked beyond", x.picked(want.length), BAD);
-    }
-
-    private static void fill(SlotTurns x, int sheet, int lane, int... numbers) {
-        x.sheet(sheet, lane, numbers.length);
-        for (int i = 0; i < numbers.length; i++) {
-            x.item(sheet, lane, i, numbers[i]);
-        }
     }
 
     /** Phases 0, 1, 2 with one coil each, turned by 4 slots of 12: balanced. */
@@ -255,16 +197,6 @@ public final class PromisesTest {
         x.motor(24, 6, 3);
         x.make(23);
         c.due("the last one's phase", x.told(23, 0), 2 * (2 * 3 * 6 * 23 / 24 % 6) % 3);
-    }
-
-    private void madeIs(SlotTurns x, int span, int[] phases, int[] turnedRound) {
-        int q = phases.length;
-        c.due("count(0)", x.count(0), q);
-        for (int i = 0; i < q; i++) {
-            int other = (i + span) % q;
-            boolean round = turnedRound[i] == 1;
-            coilIs(x, i, phases[i], round ? other : i, round ? i : other, 1, 1);
-        }
     }
 
     private void promise7Told() {
@@ -692,24 +624,28 @@ public final class PromisesTest {
     }
 
     private void aNewRowHasNoughtInEachItem() {
-        SlotTurns x = new SlotTurns();
         int[] twos = new int[96];
         java.util.Arrays.fill(twos, 2);
-        fill(x, 0, 1, twos);
-        x.drop(0);
-        x.sheet(0, 0, 96);
-        x.item(0, 0, 2, 5);
-        x.item(0, 0, 3, 1);
-        c.due("the first two items", x.coils(0, 0, 0, 1), 1);
-        coilIs(x, 0, 0, 0, 5, 1, 1);
-        for (int i = 4; i <= 92; i++) {
-            x.clear();
+        for (int i = 0; i <= 92; i++) {
+            SlotTurns x = new SlotTurns();
+            fill(x, 0, 0, twos);
             x.sheet(0, 0, 96);
             x.item(0, 0, i + 1, 1);
             x.item(0, 0, i + 2, 4);
             x.item(0, 0, i + 3, 7);
             c.due("item " + i, x.coils(0, 0, i, 1), 1);
             coilIs(x, 0, 0, 1, 4, 7, 1);
+        }
+        for (int i = 1; i <= 93; i++) {
+            SlotTurns x = new SlotTurns();
+            fill(x, 0, 1, twos);
+            x.drop(0);
+            x.sheet(0, 1, 96);
+            x.item(0, 1, i - 1, 1);
+            x.item(0, 1, i + 1, 4);
+            x.item(0, 1, i + 2, 7);
+            c.due("item " + i + " after drop", x.coils(0, 1, i - 1, 1), 1);
+            coilIs(x, 0, 1, 0, 4, 7, 1);
         }
     }
 

@@ -119,15 +119,17 @@ public final class RulesTest {
     private void callsMakeNoObjects() {
         com.sun.management.ThreadMXBean bean = (com.sun.management.ThreadMXBean) ManagementFactory.getThreadMXBean();
         long self = Thread.currentThread().getId();
-        SlotTurns x = new SlotTurns();
-        callAll(x);
-        bean.getThreadAllocatedBytes(self);
-        long before = bean.getThreadAllocatedBytes(self);
-        for (int round = 0; round < 1000; round++) {
-            callAll(x);
+        long made = 0;
+        for (int object = 0; object < 50; object++) {
+            SlotTurns x = new SlotTurns();
+            long before = bean.getThreadAllocatedBytes(self);
+            for (int round = 0; round < 18; round++) {
+                callAll(x);
+            }
+            // The first objects load classes, and the machine makes something for that.
+            made += object < 10 ? 0 : bean.getThreadAllocatedBytes(self) - before;
         }
-        long made = bean.getThreadAllocatedBytes(self) - before;
-        checks.holds("27000 calls make no objects, and made " + made + " bytes", made < 8000);
+        checks.holds("20000 calls make no objects, and made " + made + " bytes", made < 8000);
         checks.holds("they answered", answers != 0);
     }
 
