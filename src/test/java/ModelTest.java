@@ -5,7 +5,9 @@ import java.util.TreeMap;
 /** Long runs of calls on the program and on the model side by side; the seeds are fixed, so each run is the same. */
 public final class ModelTest {
     private static final int RUNS = 600;
+    /** What an object answers after so many calls is free. */
     private static final int CALLS = 512;
+    private static final int MOST_CALLS_OF_A_STEP = 40;
 
     private final Checks checks = new Checks("ModelTest");
     private final Map<String, Integer> seen = new TreeMap<>();
@@ -31,13 +33,30 @@ public final class ModelTest {
         x = new SlotTurns();
         y = new Model();
         call = 0;
-        while (call < CALLS) {
+        while (call < CALLS - MOST_CALLS_OF_A_STEP) {
             switch (number % 4) {
                 case 0 -> stepOfAll();
                 case 1 -> stepOfGroups();
                 case 2 -> stepOfMade();
                 default -> stepOfSheets();
             }
+        }
+        while (call < CALLS) {
+            lastCalls();
+        }
+    }
+
+    /** One call each, up to the last that an object answers. */
+    private void lastCalls() {
+        switch (random.nextInt(8)) {
+            case 0 -> coil(number(0, phases() - 1), number(0, slots() - 1), number(0, slots() - 1), number(1, 99));
+            case 1 -> use(number(0, y.count(0) - 1), random.nextBoolean());
+            case 2 -> told(number(0, y.count(0) - 1), number(0, 4));
+            case 3 -> wave(number(0, phases() - 1), number(1, 47), number(0, y.count(5) - 1));
+            case 4 -> mend();
+            case 5 -> tour(number(0, phases() - 1));
+            case 6 -> ways(number(0, phases() - 1), number(1, 4));
+            default -> picked(number(0, 2));
         }
     }
 
@@ -47,12 +66,12 @@ public final class ModelTest {
             for (int p = 1; p <= 6; p++) {
                 for (int m = 1; m <= 3; m++) {
                     run = 10000 + 100 * q + 10 * p + m;
-                    call = 0;
-                    x = new SlotTurns();
-                    y = new Model();
-                    motor(q, p, m);
-                    everyNumber();
                     for (int b : new int[] {1, q / 2, q - 1}) {
+                        call = 0;
+                        x = new SlotTurns();
+                        y = new Model();
+                        motor(q, p, m);
+                        everyNumber();
                         make(b);
                         everyCoilAndWave();
                     }

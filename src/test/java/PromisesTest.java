@@ -436,6 +436,22 @@ public final class PromisesTest extends Bench {
         c.due("the lesser way", x.copper(), 70);
         x.use(1, false);
         c.due("without one cut out", x.copper(), 52);
+        x.clear();
+        c.due("all gone", x.copper(), 0);
+        x.motor(24, 1, 1);
+        c.due("another motor", x.copper(), 0);
+        for (int i = 0; i < 24; i++) {
+            x.coil(0, i, (i + 12) % 24, 99);
+        }
+        c.due("24 coils of 99 turns half round", x.copper(), 24 * 99 * 12);
+        cutOut(x, 0, 22);
+        c.due("the last one", x.copper(), 99 * 12);
+        cutOut(x, 23, 23);
+        c.due("all cut out", x.copper(), 0);
+        x.make(23);
+        c.due("24 coils by one slot the lesser way", x.copper(), 24);
+        x.make(13);
+        c.due("24 coils by eleven slots the lesser way", x.copper(), 24 * 11);
     }
 
     private void promise17Tour() {

@@ -37,14 +37,17 @@ public final class TermsTest extends Bench {
         t.tourBeginsWithTheFirst();
         t.tourTheLesserWay();
         t.tourOfSevenAtMost();
+        t.tourAtItsGreatest();
         t.tourOfLikeOnesTheFirst();
         t.mendWithNothing();
         t.mendTheFewest();
         t.mendTheFirst();
+        t.mendTakesACoilOnce();
         t.mendAmongAllFull();
         t.mendIsNotStill();
         t.shortsTheFewest();
         t.shortsTheFirst();
+        t.shortsTakeACoilOnce();
         t.shortsAtTheirGreatest();
         t.answersUpToTheLastCall();
         t.c.end();
@@ -185,11 +188,10 @@ public final class TermsTest extends Bench {
         for (int q : new int[] {3, 7, 12, 16, 23, 24}) {
             SlotTurns x = motor(q, 1, 1);
             lay(x, 0, 0, 1, 1, 2, 1, 50, q - 1, 0, 99);
-            for (int tone = 1; tone + q <= 47; tone++) {
-                for (int i = 0; i < x.count(5); i++) {
-                    if (tone == 1 || tone == q - 1 || tone + q == 47) {
-                        c.due("tone " + tone + " and " + q + " more", x.wave(0, tone + q, i), x.wave(0, tone, i));
-                    }
+            int degree = x.count(5);
+            for (int tone : new int[] {1, q - 1, 47 - q}) {
+                for (int i = 0; i < degree; i++) {
+                    c.due("tone " + tone + " and " + q + " more", x.wave(0, tone + q, i), x.wave(0, tone, i));
                 }
             }
             for (int tone = q; tone <= 47; tone += q) {
@@ -585,6 +587,20 @@ public final class TermsTest extends Bench {
         tourIs(x, 0, 2, 4, 6, 8, 10, 12);
     }
 
+    /** From each out to each in it is half round less what the two slots differ by. */
+    private void tourAtItsGreatest() {
+        SlotTurns x = motor(24, 1, 1);
+        for (int i = 0; i < 7; i++) {
+            x.coil(0, i, i + 12, 1);
+        }
+        c.due("seven half round, 84 less 24", x.tour(0), 60);
+        tourIs(x, 0, 3, 4, 1, 5, 2, 6);
+        x.clear();
+        lay(x, 0, 0, 12, 1, 0, 12, 1);
+        c.due("two half round", x.tour(0), 24);
+        tourIs(x, 0, 1);
+    }
+
     private void tourOfLikeOnesTheFirst() {
         SlotTurns x = motor(12, 1, 1);
         lay(x, 0, 3, 4, 1, 0, 1, 1, 0, 1, 1);
@@ -676,6 +692,20 @@ public final class TermsTest extends Bench {
         x.coil(0, 11, 23, 1);
         x.coil(lastPhase, 23, 11, lastTurns);
         return x;
+    }
+
+    private void mendTakesACoilOnce() {
+        SlotTurns x = motor(12, 1, 2);
+        lay(x, 0, 0, 6, 5, 0, 6, 6);
+        lay(x, 1, 4, 2, 2);
+        waveIs(x, 0, 1, 22, 0, 0, 0);
+        waveIs(x, 1, 1, -2, 0, 0, 0);
+        c.due("10 twice less would do, but 10 and 12 leave none", x.mend(), NONE);
+        x.clear();
+        lay(x, 0, 0, 6, 5, 0, 6, 1);
+        lay(x, 1, 4, 2, 2);
+        c.due("10 less", x.mend(), 1);
+        pickedAre(x, 0);
     }
 
     private void mendAmongAllFull() {
@@ -772,6 +802,15 @@ public final class TermsTest extends Bench {
         c.due("none in use, nothing read", x.shorts(0, 0), 0);
         pickedAre(x);
         c.due("none in use, one read", x.shorts(0, 1), NONE);
+    }
+
+    private void shortsTakeACoilOnce() {
+        SlotTurns x = motor(12, 1, 1);
+        lay(x, 0, 0, 6, 5, 0, 6, 20);
+        c.due("5 twice less", x.shorts(0, 15), NONE);
+        c.due("5 thrice less", x.shorts(0, 10), NONE);
+        c.due("5 less", x.shorts(0, 20), 1);
+        pickedAre(x, 0);
     }
 
     // ---- the head
